@@ -444,12 +444,13 @@ public final class BeatQueues {
     // ---- undoing and images ----
 
     public int undo() {
-        if (undoable == 0) {
+        int latest = (pastNext + MOST_UNDONE - 1) % MOST_UNDONE;
+        if (undoable == 0 || latest < 0 || latest >= past.length) {
             return NONE;
         }
-        pastNext = (pastNext + MOST_UNDONE - 1) % MOST_UNDONE;
+        loadMoment(past[latest]);
+        pastNext = latest;
         undoable--;
-        loadMoment(past[pastNext]);
         return undoable;
     }
 
@@ -615,6 +616,9 @@ public final class BeatQueues {
     }
 
     private void saveMoment(int[] moment) {
+        if (moment == null || moment.length < MOMENT) {
+            return;
+        }
         moment[MOMENT_BEATS] = beats;
         moment[MOMENT_PLAN] = planAt;
         for (int m = 0; m < MACHINES; m++) {
@@ -626,6 +630,9 @@ public final class BeatQueues {
     }
 
     private void loadMoment(int[] moment) {
+        if (moment == null || moment.length < MOMENT) {
+            return;
+        }
         beats = moment[MOMENT_BEATS];
         planAt = moment[MOMENT_PLAN];
         for (int m = 0; m < MACHINES; m++) {
@@ -730,15 +737,12 @@ public final class BeatQueues {
 
         abstract void dropTop();
 
+        abstract void replaceTop(int entry);
+
         void moveOn() {
         }
 
         void makeReady() {
-        }
-
-        void replaceTop(int entry) {
-            dropTop();
-            enter(entry);
         }
 
         void callOff(int i) {
@@ -844,6 +848,7 @@ public final class BeatQueues {
                     }
                     break;
                 default:
+                    // CANCEL; or WAIT, which calls nothing off
                     callOff(called);
                     if (Entry.isMarked(top())) {
                         countMore(SWEPT);
@@ -1021,6 +1026,11 @@ public final class BeatQueues {
 
         void dropTop() {
             closeUp(0);
+        }
+
+        void replaceTop(int entry) {
+            closeUp(0);
+            enter(entry);
         }
 
         /** Nothing is MARKED in this row: what is called off goes at once. */
@@ -1330,6 +1340,11 @@ public final class BeatQueues {
                 setSlot(i, slot(i + 1));
             }
             setSlot(last, Entry.EMPTY);
+        }
+
+        void replaceTop(int entry) {
+            dropTop();
+            enter(entry);
         }
     }
 

@@ -52,9 +52,11 @@ final class Check {
         return q;
     }
 
+    /** Kind 0: the text is without a FAULT. */
     static void fault(String text, int kind, int place) {
         BeatQueues q = new BeatQueues();
-        due("text: " + text, text(q, text), kind == 0 ? Math.max(0, text(q, text)) : -1);
+        int lines = text(q, text);
+        holds("text: " + text, kind == 0 ? lines >= 0 : lines == -1);
         due("fault(0): " + text, q.fault(0), kind);
         due("fault(1): " + text, q.fault(1), place);
     }
