@@ -510,12 +510,9 @@ public final class BeatQueues {
         return what >= 0 && what <= 3;
     }
 
-    /** Within one BEAT at most one ENTRY comes to a MACHINE, so STAMPS tell ENTRIES apart. */
+    /** By STAMPS; nothing has a number here that no STAMP has. */
     private static boolean isUnlike(int one, int other) {
-        if (one == Entry.EMPTY || other == Entry.EMPTY) {
-            return one != other;
-        }
-        return Entry.stampOf(one) != Entry.stampOf(other);
+        return Entry.part(one, Entry.STAMP) != Entry.part(other, Entry.STAMP);
     }
 
     private Machine machineAt(int machine) {
@@ -646,6 +643,9 @@ public final class BeatQueues {
     /** An ENTRY in one number, KEY, STAMP, NAME, MARKED from the top, so that LESS compares the upper bits. */
     private static final class Entry {
         static final int EMPTY = -1;
+        static final int KEY = 0;
+        static final int NAME = 1;
+        static final int STAMP = 2;
 
         static int make(int key, int name, int stamp) {
             return key << 20 | stamp << 6 | name << 1;
@@ -680,11 +680,11 @@ public final class BeatQueues {
                 return NOTHING;
             }
             switch (what) {
-                case 0:
+                case KEY:
                     return keyOf(entry);
-                case 1:
+                case NAME:
                     return nameOf(entry);
-                case 2:
+                case STAMP:
                     return stampOf(entry);
                 default:
                     return isMarked(entry) ? 1 : 0;

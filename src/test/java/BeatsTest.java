@@ -7,7 +7,9 @@ public final class BeatsTest {
         ties();
         fallingOff();
         take();
+        takeFromTheRight();
         both();
+        bothInAShortRow();
         bothWithoutHead();
         pauseMovesOn();
         pauseSweeps();
@@ -189,6 +191,41 @@ public final class BeatsTest {
             Check.due("outs " + m, q.of(m, 6), 2);
         }
         Check.due("free(1)", q.free(1), 7);
+    }
+
+    private static void takeFromTheRight() {
+        BeatQueues q = Check.told("levels 2; buckets 4 2;");
+        q.put(1, 0);
+        q.put(500, 1);
+        q.put(300, 2);
+        q.pause();
+        row(q, "heap", 2, 1, 1, 500, 300);
+        row(q, "buckets", 3, 0, 1, -2, 300, -2, 500, -2);
+        q.take();
+        row(q, "heap: the less one is on the right", 2, 1, 300, 500, -2);
+        token(q, "heap", 1, 3, 1, -2);
+        Check.due("free(3)", q.free(3), 1);
+        Check.due("free(2)", q.free(2), 0);
+        row(q, "buckets: the others stay", 3, 0, -2, -2, 300, -2, 500, -2);
+        q.put(400, 3);
+        token(q, "heap: where there is room", 1, 3, 0, 400);
+        q.both(600, 4);
+        row(q, "heap", 2, 1, 400, 500, -2);
+        token(q, "heap: the less one is on the right", 1, 3, 2, 600);
+    }
+
+    private static void bothInAShortRow() {
+        BeatQueues q = Check.told("row 2;");
+        q.put(10, 0);
+        q.put(20, 1);
+        q.pause();
+        q.both(25, 2);
+        row(q, "the last cell's is pulled", 1, 0, 20, -2);
+        hands(q, "the last cell's is pulled", 25, -2);
+        q.pause();
+        row(q, "and is kept", 1, 0, 20, 25);
+        hands(q, "and is kept", -2, -2);
+        Check.due("nothing lost", q.of(1, 2), 0);
     }
 
     private static BeatQueues tenTwentyThirty() {

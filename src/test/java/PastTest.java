@@ -85,6 +85,7 @@ public final class PastTest {
             }
         }
         Check.due("not so many", q.log(0, 2, 0), -2);
+        Check.due("not so many", q.log(0, 2, 3), -2);
         Check.due("not so many", q.log(0, Integer.MAX_VALUE, 0), -2);
         Check.due("no such k", q.log(0, -1, 0), -1);
         Check.due("no such what", q.log(0, 0, 4), -1);

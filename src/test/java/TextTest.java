@@ -76,6 +76,16 @@ public final class TextTest {
         Check.feed(q, "take;".getBytes());
         Check.due("nothing of the tape", q.text(0), 0);
         Check.due("the tape is empty again", q.count(7), 0);
+        // a word, a number that goes on behind the first n bytes ends there
+        Check.feed(q, "take;wait;".getBytes());
+        Check.due("a word cut short", q.text(8), -1);
+        Check.due("its kind", q.fault(0), 1);
+        Check.due("its place", q.fault(1), 5);
+        Check.feed(q, "take;take;wait;".getBytes());
+        Check.due("nothing behind a line", q.text(10), 2);
+        Check.feed(q, "row 12;".getBytes());
+        Check.due("a number cut short", q.text(5), -1);
+        Check.due("more must come", q.fault(1), 5);
     }
 
     private static void textStartsOver() {
@@ -88,10 +98,23 @@ public final class TextTest {
         q.take();
         q.take();
         q.take();
+        for (int i = 0; i < 9; i++) {
+            q.put(i, i);
+        }
         q.keep();
-        Check.due("undoable", q.count(6), 5);
+        Check.due("undoable", q.count(6), 14);
+        Check.due("lost", q.of(0, 2), 6);
+        Check.due("refused", q.of(2, 3), 6);
         Check.due("a text of no lines", Check.text(q, " "), 0);
         newCounts(q);
+        Check.due("the seed too", q.chance(-1, 60, 3, 3), q.chance(0, 60, 3, 3));
+        Check.due("one with lines", Check.text(q, "put a 1;seed 5;buckets 2 3;"), 3);
+        Check.due("again of no lines", Check.text(q, ""), 0);
+        newCounts(q);
+        Check.due("the seed too", q.chance(-1, 60, 3, 3), q.chance(0, 60, 3, 3));
+        Check.due("one with lines", Check.text(q, "put a 1;take;"), 2);
+        Check.due("all of them", q.count(2), 2);
+        Check.text(q, "");
         Check.due("no image", q.back(), -1);
         Check.due("nothing to undo", q.undo(), -1);
         Check.due("no such name", q.named(Check.letters("b")), -1);
@@ -147,7 +170,7 @@ public final class TextTest {
         Check.fault("row 0000000000000000000000016;put a 00999;put b 0;", 0, -1);
         Check.fault("wait;wait;row 2;wait;seed 3;", 0, -1);
         Check.fault("both a 1;cancel a;renew a 2;put a 3;", 0, -1);
-        Check.fault("put rows 1;put pu 2;put seeds 3;", 0, -1);
+        Check.fault("put rows 1;put pu 2;put seeds 3;put but 4;put puu 5;put bake 6;put sow 7;", 0, -1);
         BeatQueues q = Check.told("both a 1;cancel a;renew a 2;put a 3;");
         Check.due("one name", q.count(5), 1);
         Check.due("lines of the plan", q.count(2), 4);
@@ -174,6 +197,10 @@ public final class TextTest {
         Check.fault("buckets 1;", 1, 9);
         Check.fault("puts a 1;", 1, 0);
         Check.fault("pu a 1;", 1, 0);
+        Check.fault("but a 1;", 1, 0);
+        Check.fault("puu a 1;", 1, 0);
+        Check.fault("bake;", 1, 0);
+        Check.fault("sow 3;", 1, 0);
         Check.fault("wait;waits;", 1, 5);
         Check.fault("put abcdefg 1;", 1, 4);
         Check.fault("put buckets 1;", 1, 4);

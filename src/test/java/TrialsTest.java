@@ -166,6 +166,10 @@ public final class TrialsTest {
         // what is handed on and what is with tokens doesn't lie anywhere
         BeatQueues r = fiftyThirty();
         each("apart", new int[] {r.apart(0), r.apart(1), r.apart(2), r.apart(3)}, 0, 0, 0, 1);
+        r.put(750, 2);
+        r.put(40, 3);
+        Check.due("cell 0 hands on one that is less than what cell 1 keeps", r.kept(1, 1, 0) - r.handed(0, 0), 50 - 40);
+        Check.due("apart all the same", r.apart(1), 0);
         BeatQueues s = new BeatQueues();
         s.put(40, 0);
         s.put(30, 0);
