@@ -71,60 +71,36 @@ public final class BeatsTest {
         Check.due("what is tried is not bound", q.drains(0), 1);
     }
 
-    private static void row(BeatQueues q, String what, int machine, int from, int... keys) {
-        for (int i = 0; i < keys.length; i++) {
-            Check.due(what + ": kept(" + machine + "," + (from + i) + ")", q.kept(machine, from + i, 0), keys[i]);
-        }
-    }
-
-    private static void hands(BeatQueues q, String what, int... keys) {
-        for (int i = 0; i < keys.length; i++) {
-            Check.due(what + ": handed(" + i + ")", q.handed(i, 0), keys[i]);
-        }
-    }
-
-    private static void token(BeatQueues q, String what, int level, int node, int kind, int key) {
-        Check.due(what + ": token(" + level + ",0)", q.token(level, 0), node);
-        Check.due(what + ": token(" + level + ",1)", q.token(level, 1), kind);
-        Check.due(what + ": token(" + level + ",2)", q.token(level, 2), key);
-    }
-
-    private static void noToken(BeatQueues q, String what, int level) {
-        for (int part = 0; part < 5; part++) {
-            Check.due(what + ": token(" + level + "," + part + ")", q.token(level, part), -2);
-        }
-    }
-
     private static void put() {
         BeatQueues q = new BeatQueues();
         q.put(50, 0);
         q.put(30, 1);
-        row(q, "shift row", 0, 0, 30, 50, -2);
-        row(q, "handing row", 1, 0, 30, -2);
-        hands(q, "handing row", 50, -2);
-        row(q, "heap", 2, 1, 30, -2, -2);
-        token(q, "heap", 1, 2, 0, 50);
-        row(q, "buckets", 3, 0, 50, 30, -2);
+        Check.row(q, "shift row", 0, 0, 30, 50, -2);
+        Check.row(q, "handing row", 1, 0, 30, -2);
+        Check.hands(q, "handing row", 50, -2);
+        Check.row(q, "heap", 2, 1, 30, -2, -2);
+        Check.token(q, "heap", 1, 2, 0, 50);
+        Check.row(q, "buckets", 3, 0, 50, 30, -2);
         q.put(750, 2);
-        row(q, "shift row", 0, 0, 30, 50, 750);
-        row(q, "handing row", 1, 0, 30, 50, -2);
-        hands(q, "handing row", 750, -2);
-        row(q, "heap", 2, 1, 30, 50, -2);
-        token(q, "heap", 1, 2, 0, 750);
-        row(q, "buckets", 3, 0, 50, 30, -2, -2, -2, -2, -2, -2, -2, -2, -2, -2, 750, -2);
+        Check.row(q, "shift row", 0, 0, 30, 50, 750);
+        Check.row(q, "handing row", 1, 0, 30, 50, -2);
+        Check.hands(q, "handing row", 750, -2);
+        Check.row(q, "heap", 2, 1, 30, 50, -2);
+        Check.token(q, "heap", 1, 2, 0, 750);
+        Check.row(q, "buckets", 3, 0, 50, 30, -2, -2, -2, -2, -2, -2, -2, -2, -2, -2, 750, -2);
         q.put(40, 3);
-        row(q, "shift row", 0, 0, 30, 40, 50, 750);
-        row(q, "handing row", 1, 0, 30, 50, -2);
-        hands(q, "handing row", 40, 750, -2);
-        row(q, "heap", 2, 1, 30, 50, -2, -2);
-        token(q, "heap: FREE of 2 is above 0", 1, 2, 0, 40);
-        token(q, "heap", 2, 4, 0, 750);
+        Check.row(q, "shift row", 0, 0, 30, 40, 50, 750);
+        Check.row(q, "handing row", 1, 0, 30, 50, -2);
+        Check.hands(q, "handing row", 40, 750, -2);
+        Check.row(q, "heap", 2, 1, 30, 50, -2, -2);
+        Check.token(q, "heap: FREE of 2 is above 0", 1, 2, 0, 40);
+        Check.token(q, "heap", 2, 4, 0, 750);
         q.put(60, 4);
-        row(q, "handing row", 1, 0, 30, 40, 750);
-        hands(q, "handing row", 60, 50, -2);
-        row(q, "heap", 2, 1, 30, 40, -2, 750, -2);
-        token(q, "heap: FREE of 2 is 0", 1, 3, 0, 60);
-        token(q, "heap: FREE of 4 is 0", 2, 5, 0, 50);
+        Check.row(q, "handing row", 1, 0, 30, 40, 750);
+        Check.hands(q, "handing row", 60, 50, -2);
+        Check.row(q, "heap", 2, 1, 30, 40, -2, 750, -2);
+        Check.token(q, "heap: FREE of 2 is 0", 1, 3, 0, 60);
+        Check.token(q, "heap: FREE of 4 is 0", 2, 5, 0, 50);
     }
 
     private static void ties() {
@@ -146,22 +122,22 @@ public final class BeatsTest {
         q.put(30, 2);
         Check.due("shift row lost", q.of(0, 2), 1);
         Check.due("buckets lost", q.of(3, 2), 1);
-        row(q, "shift row", 0, 0, 10, 20);
-        row(q, "buckets", 3, 0, 10, 20, -2, -2);
+        Check.row(q, "shift row", 0, 0, 10, 20);
+        Check.row(q, "buckets", 3, 0, 10, 20, -2, -2);
         q.put(5, 3);
-        row(q, "shift row: the last one is lost", 0, 0, 5, 10);
-        row(q, "buckets: the new one is lost", 3, 0, 10, 20, -2, -2);
+        Check.row(q, "shift row: the last one is lost", 0, 0, 5, 10);
+        Check.row(q, "buckets: the new one is lost", 3, 0, 10, 20, -2, -2);
         Check.due("shift row lost", q.of(0, 2), 2);
         Check.due("buckets lost", q.of(3, 2), 2);
         Check.due("heap refused", q.of(2, 3), 1);
         Check.due("heap has not lost", q.of(2, 2), 0);
         Check.due("handing row has not lost yet", q.of(1, 2), 0);
-        row(q, "handing row", 1, 0, 5, 20);
-        hands(q, "handing row", 10, 30);
+        Check.row(q, "handing row", 1, 0, 5, 20);
+        Check.hands(q, "handing row", 10, 30);
         q.pause();
         Check.due("handing row lost 30", q.of(1, 2), 1);
-        row(q, "handing row", 1, 0, 5, 10);
-        hands(q, "handing row", -2, 20);
+        Check.row(q, "handing row", 1, 0, 5, 10);
+        Check.hands(q, "handing row", -2, 20);
         q.pause();
         Check.due("handing row lost 20", q.of(1, 2), 2);
         Check.due("handing row has", q.of(1, 0), 2);
@@ -180,7 +156,7 @@ public final class BeatsTest {
             Check.due("head " + m, q.head(m, 0), left[m]);
             Check.due("no miss " + m, q.of(m, 4), 0);
         }
-        token(q, "heap", 1, 2, 1, -2);
+        Check.token(q, "heap", 1, 2, 1, -2);
         Check.due("free(1)", q.free(1), 6);
         Check.due("free(2)", q.free(2), 3);
         q.take();
@@ -199,19 +175,19 @@ public final class BeatsTest {
         q.put(500, 1);
         q.put(300, 2);
         q.pause();
-        row(q, "heap", 2, 1, 1, 500, 300);
-        row(q, "buckets", 3, 0, 1, -2, 300, -2, 500, -2);
+        Check.row(q, "heap", 2, 1, 1, 500, 300);
+        Check.row(q, "buckets", 3, 0, 1, -2, 300, -2, 500, -2);
         q.take();
-        row(q, "heap: the less one is on the right", 2, 1, 300, 500, -2);
-        token(q, "heap", 1, 3, 1, -2);
+        Check.row(q, "heap: the less one is on the right", 2, 1, 300, 500, -2);
+        Check.token(q, "heap", 1, 3, 1, -2);
         Check.due("free(3)", q.free(3), 1);
         Check.due("free(2)", q.free(2), 0);
-        row(q, "buckets: the others stay", 3, 0, -2, -2, 300, -2, 500, -2);
+        Check.row(q, "buckets: the others stay", 3, 0, -2, -2, 300, -2, 500, -2);
         q.put(400, 3);
-        token(q, "heap: where there is room", 1, 3, 0, 400);
+        Check.token(q, "heap: where there is room", 1, 3, 0, 400);
         q.both(600, 4);
-        row(q, "heap", 2, 1, 400, 500, -2);
-        token(q, "heap: the less one is on the right", 1, 3, 2, 600);
+        Check.row(q, "heap", 2, 1, 400, 500, -2);
+        Check.token(q, "heap: the less one is on the right", 1, 3, 2, 600);
     }
 
     private static void bothInAShortRow() {
@@ -220,11 +196,11 @@ public final class BeatsTest {
         q.put(20, 1);
         q.pause();
         q.both(25, 2);
-        row(q, "the last cell's is pulled", 1, 0, 20, -2);
-        hands(q, "the last cell's is pulled", 25, -2);
+        Check.row(q, "the last cell's is pulled", 1, 0, 20, -2);
+        Check.hands(q, "the last cell's is pulled", 25, -2);
         q.pause();
-        row(q, "and is kept", 1, 0, 20, 25);
-        hands(q, "and is kept", -2, -2);
+        Check.row(q, "and is kept", 1, 0, 20, 25);
+        Check.hands(q, "and is kept", -2, -2);
         Check.due("nothing lost", q.of(1, 2), 0);
     }
 
@@ -235,7 +211,7 @@ public final class BeatsTest {
         q.put(30, 2);
         q.pause();
         q.pause();
-        row(q, "heap", 2, 1, 10, 20, -2, 30);
+        Check.row(q, "heap", 2, 1, 10, 20, -2, 30);
         return q;
     }
 
@@ -246,37 +222,37 @@ public final class BeatsTest {
             Check.due("out " + m, Check.out(q, m, 0), 10);
             Check.due("head " + m, q.head(m, 0), 20);
         }
-        row(q, "shift row", 0, 0, 20, 25, 30);
-        row(q, "handing row: what is next is pulled", 1, 0, 20, -2, 30);
-        hands(q, "handing row", 25, -2, -2);
-        row(q, "heap", 2, 1, 20, -2, -2, 30);
-        token(q, "heap", 1, 2, 2, 25);
+        Check.row(q, "shift row", 0, 0, 20, 25, 30);
+        Check.row(q, "handing row: what is next is pulled", 1, 0, 20, -2, 30);
+        Check.hands(q, "handing row", 25, -2, -2);
+        Check.row(q, "heap", 2, 1, 20, -2, -2, 30);
+        Check.token(q, "heap", 1, 2, 2, 25);
         Check.due("token's name", q.token(1, 3), 3);
         Check.due("token's stamp", q.token(1, 4), 5);
         Check.due("free(1)", q.free(1), 4);
         Check.due("free(2)", q.free(2), 1);
-        row(q, "buckets", 3, 0, 20, 30, 25, -2);
+        Check.row(q, "buckets", 3, 0, 20, 30, 25, -2);
         q.pause();
-        row(q, "handing row", 1, 0, 20, 25, 30);
-        row(q, "heap", 2, 1, 20, 25, -2, 30);
-        noToken(q, "heap", 1);
-        noToken(q, "heap", 2);
+        Check.row(q, "handing row", 1, 0, 20, 25, 30);
+        Check.row(q, "heap", 2, 1, 20, 25, -2, 30);
+        Check.noToken(q, "heap", 1);
+        Check.noToken(q, "heap", 2);
         // one that is less than all stays on top
         q.both(1, 4);
-        row(q, "handing row", 1, 0, 1, 25, 30);
-        row(q, "heap", 2, 1, 1, 25, -2, 30);
-        row(q, "shift row", 0, 0, 1, 25, 30);
+        Check.row(q, "handing row", 1, 0, 1, 25, 30);
+        Check.row(q, "heap", 2, 1, 1, 25, -2, 30);
+        Check.row(q, "shift row", 0, 0, 1, 25, 30);
         // one that is greater than all goes down to the last place
         q.both(900, 5);
-        token(q, "heap", 1, 2, 2, 900);
+        Check.token(q, "heap", 1, 2, 2, 900);
         q.pause();
-        row(q, "handing row", 1, 0, 25, 30, -2);
-        hands(q, "handing row", -2, 900);
-        token(q, "heap", 2, 4, 2, 900);
-        row(q, "heap", 2, 1, 25, 30, -2, -2);
+        Check.row(q, "handing row", 1, 0, 25, 30, -2);
+        Check.hands(q, "handing row", -2, 900);
+        Check.token(q, "heap", 2, 4, 2, 900);
+        Check.row(q, "heap", 2, 1, 25, 30, -2, -2);
         q.pause();
-        row(q, "handing row", 1, 0, 25, 30, 900);
-        row(q, "heap", 2, 1, 25, 30, -2, 900);
+        Check.row(q, "handing row", 1, 0, 25, 30, 900);
+        Check.row(q, "heap", 2, 1, 25, 30, -2, 900);
     }
 
     private static void bothWithoutHead() {
@@ -302,10 +278,10 @@ public final class BeatsTest {
         q.put(1, 0);
         q.put(2, 1);
         q.pause();
-        row(q, "handing row", 1, 0, 1, 2, -2);
-        hands(q, "handing row", -2, -2);
-        row(q, "heap", 2, 1, 1, 2, -2);
-        noToken(q, "heap", 1);
+        Check.row(q, "handing row", 1, 0, 1, 2, -2);
+        Check.hands(q, "handing row", -2, -2);
+        Check.row(q, "heap", 2, 1, 1, 2, -2);
+        Check.noToken(q, "heap", 1);
         for (int m = 0; m < 4; m++) {
             Check.due("nothing is out " + m, Check.out(q, m, 0), -2);
             Check.due("all are there " + m, q.of(m, 0), 2);
@@ -331,7 +307,7 @@ public final class BeatsTest {
             Check.due("no outs " + m, q.of(m, 6), 0);
             Check.due("nothing in the log " + m, q.log(m, 0, 0), -2);
         }
-        token(q, "heap", 1, 2, 1, -2);
+        Check.token(q, "heap", 1, 2, 1, -2);
         Check.due("free(1)", q.free(1), 6);
     }
 
@@ -341,23 +317,23 @@ public final class BeatsTest {
         q.put(30, 1);
         q.put(40, 0);
         q.cancel(0);
-        row(q, "shift row: the one with the least stamp", 0, 0, 30, 40, -2);
+        Check.row(q, "shift row: the one with the least stamp", 0, 0, 30, 40, -2);
         for (int m = 1; m < 3; m++) {
             Check.due("marked " + m, q.of(m, 1), 1);
             Check.due("entries " + m, q.of(m, 0), 3);
             Check.due("not swept " + m, q.of(m, 5), 0);
         }
-        hands(q, "handing row: what is handed on is marked too", -2, 50);
+        Check.hands(q, "handing row: what is handed on is marked too", -2, 50);
         Check.due("marked", q.handed(1, 3), 1);
-        row(q, "handing row", 1, 0, 30, 40);
+        Check.row(q, "handing row", 1, 0, 30, 40);
         Check.due("not marked", q.kept(1, 1, 3), 0);
-        token(q, "heap: what a token has is marked too", 2, 4, 0, 50);
+        Check.token(q, "heap: what a token has is marked too", 2, 4, 0, 50);
         q.pause();
         Check.due("marked in its node", q.kept(2, 4, 3), 1);
         Check.due("buckets: head was marked and swept", q.of(3, 5), 1);
-        row(q, "buckets", 3, 0, 30, 40, -2);
+        Check.row(q, "buckets", 3, 0, 30, 40, -2);
         q.cancel(0);
-        row(q, "shift row: the other one", 0, 0, 30, -2);
+        Check.row(q, "shift row: the other one", 0, 0, 30, -2);
         Check.due("both are marked", q.of(1, 1), 2);
         Check.due("both are marked", q.of(2, 1), 2);
         Check.due("the one that isn't head is marked", q.kept(3, 1, 3), 1);
@@ -426,14 +402,14 @@ public final class BeatsTest {
             Check.due("head " + m, q.head(m, 0), 7);
             Check.due("entries " + m, q.of(m, 0), 2);
         }
-        hands(q, "handing row", 9, -2);
-        token(q, "heap", 1, 2, 2, 9);
-        row(q, "buckets", 3, 0, 7, 9, -2);
+        Check.hands(q, "handing row", 9, -2);
+        Check.token(q, "heap", 1, 2, 2, 9);
+        Check.row(q, "buckets", 3, 0, 7, 9, -2);
     }
 
     private static void renew() {
         BeatQueues q = fiveMarkedBeforeSeven();
-        row(q, "shift row", 0, 0, 7, -2);
+        Check.row(q, "shift row", 0, 0, 7, -2);
         Check.due("its stamp", q.head(0, 2), 1);
         for (int m = 1; m < 4; m++) {
             Check.due("head is marked " + m, q.head(m, 3), 1);
@@ -444,11 +420,11 @@ public final class BeatsTest {
         }
         // the one that isn't marked is the next to be renewed
         q.renew(3, 0);
-        row(q, "shift row", 0, 0, 3, -2);
-        row(q, "handing row", 1, 0, 3, 7);
+        Check.row(q, "shift row", 0, 0, 3, -2);
+        Check.row(q, "handing row", 1, 0, 3, 7);
         Check.due("7 is marked", q.kept(1, 1, 3), 1);
         Check.due("3 is not", q.kept(1, 0, 3), 0);
-        row(q, "buckets", 3, 0, 5, 7, 3);
+        Check.row(q, "buckets", 3, 0, 5, 7, 3);
         Check.due("marked", q.of(3, 1), 2);
     }
 
@@ -487,13 +463,13 @@ public final class BeatsTest {
         BeatQueues q = Check.told("row 1; levels 1; buckets 1 1;");
         q.put(5, 0);
         q.renew(3, 0);
-        row(q, "shift row", 0, 0, 3);
-        row(q, "handing row", 1, 0, 3);
-        hands(q, "handing row", 5);
-        row(q, "heap", 2, 1, 5);
+        Check.row(q, "shift row", 0, 0, 3);
+        Check.row(q, "handing row", 1, 0, 3);
+        Check.hands(q, "handing row", 5);
+        Check.row(q, "heap", 2, 1, 5);
         Check.due("heap: refused", q.of(2, 3), 1);
         Check.due("heap: marked", q.head(2, 3), 1);
-        row(q, "buckets", 3, 0, 5);
+        Check.row(q, "buckets", 3, 0, 5);
         Check.due("buckets: lost", q.of(3, 2), 1);
         Check.due("buckets: marked", q.head(3, 3), 1);
         q.pause();

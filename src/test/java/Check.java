@@ -72,6 +72,32 @@ final class Check {
         }
     }
 
+    /** The KEYS that a MACHINE KEEPS from a place on, -2 for none. */
+    static void row(BeatQueues q, String what, int machine, int from, int... keys) {
+        for (int i = 0; i < keys.length; i++) {
+            due(what + ": kept(" + machine + "," + (from + i) + ")", q.kept(machine, from + i, 0), keys[i]);
+        }
+    }
+
+    /** The KEYS that CELLS HAND on, from CELL 0 on. */
+    static void hands(BeatQueues q, String what, int... keys) {
+        for (int i = 0; i < keys.length; i++) {
+            due(what + ": handed(" + i + ")", q.handed(i, 0), keys[i]);
+        }
+    }
+
+    static void token(BeatQueues q, String what, int level, int node, int kind, int key) {
+        due(what + ": token(" + level + ",0)", q.token(level, 0), node);
+        due(what + ": token(" + level + ",1)", q.token(level, 1), kind);
+        due(what + ": token(" + level + ",2)", q.token(level, 2), key);
+    }
+
+    static void noToken(BeatQueues q, String what, int level) {
+        for (int part = 0; part < 5; part++) {
+            due(what + ": token(" + level + "," + part + ")", q.token(level, part), -2);
+        }
+    }
+
     static int letters(String word) {
         int code = 0;
         for (int i = 0; i < 6; i++) {
