@@ -866,6 +866,16 @@ public final class AnswerEdgesTest {
         Check.due("all 19 of them", q.differs(40, 0, 3), 19);
         q.run(40);
         Check.due("none is left", q.differs(40, 0, 3), 0);
+        // the least n, and whatever was tried ahead of it
+        BeatQueues t = Check.told("take;take;");
+        t.put(9, 0);
+        t.put(8, 0);
+        Check.due("the next BEAT alone", t.differs(1, 0, 3), 1);
+        Check.due("DRAINED", t.unlike(0, 3), 0);
+        Check.due("the next BEAT alone", t.differs(1, 0, 3), 1);
+        Check.due("the next two", t.differs(2, 0, 3), 2);
+        t.run(2);
+        Check.due("none is left", t.differs(1, 0, 3), 0);
         // like KEYS by their STAMPS
         BeatQueues r = Check.told("row 1;buckets 1 1;put a 5;put b 4;put c 5;take;take;");
         Check.due("4 and 5", r.differs(4, 0, 3), 1);

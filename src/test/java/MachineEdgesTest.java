@@ -285,6 +285,21 @@ public final class MachineEdgesTest {
         q.pause();
         Check.row(q, "it KEEPS what comes", 1, 0, 20, 25);
         Check.due("nothing is LOST", q.of(1, 2), 0);
+        // nor has the last of sixteen: what CELL 0 HANDS on is none of its
+        q = Check.told("row 16;");
+        for (int i = 1; i <= 16; i++) {
+            q.put(10 * i, 0);
+        }
+        for (int i = 0; i < 13; i++) {
+            q.pause();
+        }
+        q.put(155, 1);
+        Check.due("on its way to the last CELL", q.handed(14, 0), 160);
+        Check.due("a LESS one is HANDED on by CELL 0", q.handed(0, 0), 155);
+        q.pause();
+        Check.due("it KEEPS what comes", q.kept(1, 15, 0), 160);
+        Check.due("it HANDS on nothing", q.handed(15, 0), -2);
+        Check.due("155 comes to CELL 1, which HANDS it on", q.handed(1, 0), 155);
     }
 
     /** "what it HANDS on comes to the next CELL (behind the last one: is LOST)" */

@@ -7,7 +7,8 @@ public final class TextEdgesTest {
     private static final String[] LANGUAGE = {"row", "levels", "buckets", "seed", "put", "take", "both", "wait", "cancel",
         "renew"};
     private static final String[] NEARLY = {"ro", "rows", "level", "levelx", "bucket", "see", "seeds", "pu", "puts", "tak",
-        "takes", "bot", "boths", "wai", "waits", "cance", "rene", "renews"};
+        "takes", "bot", "boths", "wai", "waits", "cance", "rene", "renews", "but", "bake", "sow", "need", "moth", "bait",
+        "dancel", "bevels"};
 
     public static void main(String[] args) {
         linesAndTheirEnds();
@@ -141,6 +142,8 @@ public final class TextEdgesTest {
             Check.fault("take;" + (char) sign, isBlank ? 0 : 1, isBlank ? -1 : 5);
         }
         Check.fault("\n \n put \n a \n 1 \n ; \n ", 0, -1);
+        Check.fault("put\na 1;cancel a;put b 1;cancel\nb;renew\n\na\n2;", 0, -1);
+        Check.due("its letters alone", Check.told("put\nab 1;").named(Check.letters("ab")), 0);
         Check.fault("put\ta 1;", 1, 3);
         Check.fault("take\r;", 1, 4);
         Check.fault("put a\u000b1;", 1, 5);
@@ -187,14 +190,15 @@ public final class TextEdgesTest {
     }
 
     private static void settingsThatAreNotTold() {
-        BeatQueues q = Check.told("row 5;levels 2;buckets 3 2;seed 9;");
-        Check.text(q, "take;");
-        Check.due("row", q.count(0), 8);
-        Check.due("levels", q.count(1), 3);
-        Check.due("buckets", q.count(8), 4);
-        Check.due("deep", q.count(9), 4);
-        for (int what = 0; what < 4; what++) {
-            Check.due("seed", q.chance(-1, 60, 3, what), q.chance(0, 60, 3, what));
+        BeatQueues q = Check.told("row 5;levels 2;buckets 3 2;seed 9;put a 1;");
+        for (int i = 0; i < 3; i++) {
+            Check.due("a text without them", Check.text(q, "take;"), 1);
+            usualSettings(q);
+        }
+        for (int i = 0; i < 3; i++) {
+            Check.due("a FAULT behind them", Check.text(q, "row 5;levels 2;buckets 3 2;seed 9;put a 1;put"), -1);
+            Check.due("a text without them", Check.text(q, "take;"), 1);
+            usualSettings(q);
         }
         Check.due("cells", q.kept(0, 7, 0), -2);
         Check.due("cells", q.kept(0, 8, 0), -1);
@@ -202,6 +206,19 @@ public final class TextEdgesTest {
         Check.due("nodes", q.free(8), -1);
         Check.due("places", q.kept(3, 15, 0), -2);
         Check.due("places", q.kept(3, 16, 0), -1);
+    }
+
+    private static void usualSettings(BeatQueues q) {
+        Check.due("row", q.count(0), 8);
+        Check.due("levels", q.count(1), 3);
+        Check.due("buckets", q.count(8), 4);
+        Check.due("deep", q.count(9), 4);
+        Check.due("LINES of the PLAN", q.count(2), 1);
+        Check.due("NAMES", q.count(5), 0);
+        Check.due("no such NAME", q.named(Check.letters("a")), -1);
+        for (int what = 0; what < 4; what++) {
+            Check.due("seed", q.chance(-1, 60, 3, what), q.chance(0, 60, 3, what));
+        }
     }
 
     /** "The other LINES, at most 40, are the PLAN"; "2 .. a 41st LINE of the PLAN (at its word)" */
@@ -616,9 +633,14 @@ public final class TextEdgesTest {
         BeatQueues q = new BeatQueues();
         Check.feed(q, "take;wait!          ".getBytes());
         Check.due("ahead of it", q.text(5), 1);
-        Check.feed(q, "take;wait!          ".getBytes());
-        Check.due("cut in a word", q.text(7), -1);
-        Check.due("cut in a word", q.fault(1), 5);
+        for (int n = 6; n <= 8; n++) {
+            Check.feed(q, "take;wait!          ".getBytes());
+            Check.due("cut in a word", q.text(n), -1);
+            Check.due("cut in a word", q.fault(1), 5);
+        }
+        Check.feed(q, "row 16;             ".getBytes());
+        Check.due("cut in a number", q.text(5), -1);
+        Check.due("cut in a number", q.fault(1), 5);
         Check.feed(q, "take;wait!          ".getBytes());
         Check.due("cut behind a word", q.text(9), -1);
         Check.due("cut behind a word", q.fault(1), 9);
