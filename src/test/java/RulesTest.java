@@ -60,12 +60,7 @@ public final class RulesTest {
             "static \\{", "while \\(true\\)", "for \\(;", "\\.equals\\b", "hashCode", "toString"}) {
             none(source, sign);
         }
-        Matcher m = Pattern.compile("\\bthrow\\b").matcher(source);
-        int thrown = 0;
-        while (m.find()) {
-            thrown++;
-        }
-        Check.due("throws, both of them in out()", thrown, 2);
+        Check.due("throws, both of them in out()", counted(source, "\\bthrow\\b"), 2);
     }
 
     private static void methodLengths(String source) {
@@ -127,6 +122,7 @@ public final class RulesTest {
                 fields += Modifier.isStatic(how) ? 0 : 1;
                 Check.holds(f + ": static is final", !Modifier.isStatic(how) || Modifier.isFinal(how));
                 Check.holds(f + ": a static one is a number", !Modifier.isStatic(how) || f.getType() == int.class);
+                Check.holds(f + ": of a type that rule 3 names", isPlainType(f.getType()));
                 boolean isOutside = c == BeatQueues.class && !f.getName().equals("NONE");
                 Check.holds(f + " is private", !isOutside || Modifier.isPrivate(how));
             }
@@ -141,17 +137,33 @@ public final class RulesTest {
         }
     }
 
+    /** Numbers, own classes, rows of these, and rows of rows of numbers. */
+    private static boolean isPlainType(Class<?> type) {
+        boolean isRow = type.isArray();
+        Class<?> of = isRow ? type.getComponentType() : type;
+        if (isRow && of.isArray()) {
+            return of.getComponentType().isPrimitive();
+        }
+        return of.isPrimitive() || own().contains(of) || !isRow && of == String.class;
+    }
+
     // ---- who calls whom, by javap ----
 
     private static void bytecode() throws IOException, URISyntaxException {
         Path place = Path.of(BeatQueues.class.getProtectionDomain().getCodeSource().getLocation().toURI());
         Map<String, Set<String>> calls = new LinkedHashMap<>();
         Map<String, String> above = new LinkedHashMap<>();
-        try (Stream<Path> files = Files.list(place)) {
-            for (Path file : files.filter(RulesTest::isOfTheClass).sorted().toList()) {
-                read(javap(file), calls, above);
+        int files = 0;
+        try (Stream<Path> all = Files.list(place)) {
+            for (Path file : all.filter(RulesTest::isOfTheClass).sorted().toList()) {
+                String listing = javap(file);
+                read(listing, calls, above);
+                instructions(listing);
+                files++;
             }
         }
+        Check.due("no class without a name, no local one", files, own().size());
+        constructors(calls);
         for (Set<String> each : calls.values()) {
             for (String call : each) {
                 boolean isOwn = call.startsWith("BeatQueues");
@@ -162,6 +174,61 @@ public final class RulesTest {
         for (String method : calls.keySet()) {
             int deep = depth(method, calls, above, depths, new LinkedHashSet<>());
             Check.holds("calls go at most eight deep: " + method + " " + deep, deep <= 8);
+        }
+    }
+
+    /** No joining of texts by +, no lambda, no lock; casts of objects only behind instanceof; thrown by out() alone. */
+    private static void instructions(String listing) {
+        for (String method : listing.split("\n\n")) {
+            none(method, "invokedynamic|monitorenter|invokeinterface|\\bjsr\\b");
+            Check.due("casts are behind instanceof: " + method.lines().findFirst(), counted(method, "checkcast"),
+                    counted(method, ": instanceof"));
+            Check.due("thrown by out() alone: " + method.lines().findFirst(), counted(method, "athrow"),
+                    method.contains("int out(") ? 2 : 0);
+            none(method, "(getstatic|putstatic)");
+            none(method, ": [df](add|sub|mul|div|rem|neg|cmp[lg]|const|load|store)");
+        }
+    }
+
+    private static int counted(String text, String pattern) {
+        Matcher m = Pattern.compile(pattern).matcher(text);
+        int found = 0;
+        while (m.find()) {
+            found++;
+        }
+        return found;
+    }
+
+    /** A constructor calls nothing that another class could override, nor do those that it calls. */
+    private static void constructors(Map<String, Set<String>> calls) {
+        Set<String> open = new TreeSet<>();
+        for (Class<?> c : own()) {
+            for (Method m : c.getDeclaredMethods()) {
+                int how = m.getModifiers();
+                boolean isFixed = Modifier.isPrivate(how) || Modifier.isFinal(how) || Modifier.isStatic(how)
+                        || Modifier.isFinal(c.getModifiers());
+                if (!isFixed) {
+                    open.add(c.getName() + "." + m.getName());
+                }
+            }
+        }
+        Check.holds("some can be overridden", open.contains("BeatQueues$Machine.enter"));
+        Set<String> seen = new LinkedHashSet<>();
+        for (String method : calls.keySet()) {
+            if (method.contains("<init>")) {
+                follow(method, calls, seen);
+            }
+        }
+        for (String method : seen) {
+            Check.holds("called by a constructor: " + method, !open.contains(method.replaceAll(":.*", "")));
+        }
+    }
+
+    private static void follow(String method, Map<String, Set<String>> calls, Set<String> seen) {
+        if (seen.add(method)) {
+            for (String call : calls.getOrDefault(method, Set.of())) {
+                follow(call, calls, seen);
+            }
         }
     }
 
